@@ -624,22 +624,18 @@ public final class ProbeConsole {
         }
 
         private void operand() {
-            int first = reader.peek();
-            if (Reader.isFigure(first)) {
-                number();
-            } else if (Reader.isRowByte(first)) {
+            int first = reader.position;
+            if (Reader.isFigure(reader.peek())) {
+                int number = reader.number(Integer.MAX_VALUE);
+                countNode(first);
+                code.add(Code.NUMBER, number);
+            } else if (Reader.isRowByte(reader.peek())) {
                 word();
             } else if (takeOpen()) {
                 expression();
-                takeClose();
+                reader.expect(')');
+                open--;
             }
-        }
-
-        private void number() {
-            int first = reader.position;
-            int number = reader.number(Integer.MAX_VALUE);
-            countNode(first);
-            code.add(Code.NUMBER, number);
         }
 
         private void word() {
@@ -671,7 +667,8 @@ public final class ProbeConsole {
             long name = reader.takeName();
             if (takeOpen()) {
                 int count = reader.peek() == ')' ? 0 : arguments();
-                takeClose();
+                reader.expect(')');
+                open--;
                 code.add(Code.INVOKE, Packed.key(name, count));
             }
         }
@@ -704,17 +701,14 @@ public final class ProbeConsole {
 
         /** Whether the reading may go on within: no fault lets it go deeper. */
         private boolean takeOpen() {
-            if (reader.peek() == '(' && (open >= MOST_OPEN || barred)) {
+            if (reader.peek() != '(') {
+                reader.fail(Reader.BAD_BYTE, reader.position);
+            } else if (open >= MOST_OPEN || barred) {
                 reader.fail(Reader.TOO_MUCH, reader.position);
             }
-            reader.expect('(');
+            reader.position++;
             open++;
             return reader.fault == Reader.NO_FAULT;
-        }
-
-        private void takeClose() {
-            reader.expect(')');
-            open--;
         }
     }
 
@@ -799,9 +793,11 @@ public final class ProbeConsole {
         private void readWatch(Job told) {
             told.point = point();
             told.pattern = pattern();
-            readCondition(told.expression);
+            expressions.read(told.expression, Expressions.VARIABLES.length(), false);
+            reader.endWord();
             if (reader.peek() != Tape.END) {
-                readCondition(told.condition);
+                expressions.read(told.condition, Expressions.VARIABLES.length(), false);
+                reader.endWord();
                 told.conditional = true;
             }
             if (reader.peek() != Tape.END) {
@@ -839,11 +835,6 @@ public final class ProbeConsole {
             }
             reader.endWord();
             return packed;
-        }
-
-        private void readCondition(Code into) {
-            expressions.read(into, Expressions.VARIABLES.length(), false);
-            reader.endWord();
         }
 
         private int limit() {
@@ -1187,26 +1178,28 @@ public final class ProbeConsole {
             threw = false;
             // steps only lead forward, so there are never more than the code has
             for (int i = 0; i < Code.ROOM && at < code.length; i++) {
-                at = step(code, at, row, base);
+                int next = step(code, at, row);
+                at = threw ? behindThrow(code, at, base) : next;
             }
             int value = threw ? thrown : pop();
             height = base;
             return value;
         }
 
-        /** The step that comes next. */
-        private int step(Code code, int at, int[] row, int base) {
+        /** The step that comes next, if this one doesn't throw. */
+        private int step(Code code, int at, int[] row) {
             long operand = code.operands[at];
-            switch (code.operations[at]) {
+            int operation = code.operations[at];
+            switch (operation) {
                 case Code.NUMBER:
                     push((int) operand);
-                    return at + 1;
+                    break;
                 case Code.VARIABLE:
                     push(operand >= 0 && operand < VARIABLES ? row[(int) operand] : 0);
-                    return at + 1;
+                    break;
                 case Code.NEGATE:
                     push(-pop());
-                    return at + 1;
+                    break;
                 case Code.THROW:
                     fail(pop());
                     break;
@@ -1219,10 +1212,16 @@ public final class ProbeConsole {
                     invokeNamed(operand, row[DEPTH] + 1);
                     break;
                 default:
-                    join(code.operations[at]);
+                    int right = pop();
+                    int left = pop();
+                    if (right == 0 && (operation == '/' || operation == '%')) {
+                        fail(BY_ZERO);
+                    } else {
+                        push(joined(operation, left, right));
+                    }
                     break;
             }
-            return threw ? held(code, at, base) : at + 1;
+            return at + 1;
         }
 
         private void fail(int value) {
@@ -1230,14 +1229,15 @@ public final class ProbeConsole {
             thrown = value;
         }
 
-        /** The step behind what was thrown here: a probe's expression throws only what can be held. */
-        private int held(Code code, int at, int base) {
-            int next = code.behindThrow(at);
-            if (next >= code.length || stopped && code.operations[at] == Code.INVOKE) {
-                return code.length;
+        /** The step that comes behind a throw: the right side of a # that holds it, or the end. */
+        private int behindThrow(Code code, int at, int base) {
+            // a probe's expression runs while a call is stopped too, but invokes nothing
+            boolean free = stopped && code.operations[at] == Code.INVOKE;
+            int next = free ? code.length : code.behindThrow(at);
+            if (next < code.length) {
+                height = base + code.heights[next - 1];
+                threw = false;
             }
-            height = base + code.heights[next - 1];
-            threw = false;
             return next;
         }
 
@@ -1257,16 +1257,6 @@ public final class ProbeConsole {
                 thrown = value;
             } else {
                 push(value);
-            }
-        }
-
-        private void join(int sign) {
-            int right = pop();
-            int left = pop();
-            if ((sign == '/' || sign == '%') && right == 0) {
-                fail(BY_ZERO);
-            } else {
-                push(joined(sign, left, right));
             }
         }
 
