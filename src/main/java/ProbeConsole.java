@@ -517,7 +517,10 @@ public final class ProbeConsole {
         }
     }
 
-    /** Reads expressions into code; its kinds are numbered as in the document. */
+    /**
+     * Reads expressions into code; its kinds are numbered as in the document. Each way deeper takes a
+     * node or opens a bracket, whose limits keep the recursion low: behind a fault nothing goes deeper.
+     */
     private static final class Expressions {
         /** In the order of the places that Machine gives them. */
         static final String VARIABLES = "abcrxnk";
@@ -650,8 +653,8 @@ public final class ProbeConsole {
         }
 
         private void variable() {
-            countNode(reader.position);
             int index = VARIABLES.indexOf((char) reader.peek());
+            countNode(reader.position);
             if (index < 0 || index >= known) {
                 reader.fail(Reader.UNKNOWN, reader.position);
             }

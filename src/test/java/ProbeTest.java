@@ -258,6 +258,12 @@ final class ProbeTest {
         DESK.command("monitor *", 0);
         DESK.command("monitor *", 1);
         DESK.due("counts begin anew behind reset", x.counted(1, 0, 1), 0);
+        for (int i = 0; i < 12; i++) {
+            DESK.command("reset", i == 0 ? 2 : 1);
+            DESK.command("monitor *", 0);
+            DESK.call(0, 0, 0, 0, 0, 1);
+            DESK.due("each job counts for itself", x.counted(0, 0, 0), 1);
+        }
     }
 
     private static void unseenInvocations() {
