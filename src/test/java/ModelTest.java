@@ -3,7 +3,12 @@ import java.util.Random;
 
 /** Runs of calls, made by chance from fixed seeds, on the console and on the model: all promises. */
 final class ModelTest {
-    private static final int RUNS = 6000;
+    private static final int RUNS = 12000;
+    /** The document tells nothing of an object behind these, so no run goes further. */
+    private static final int MOST_CALLS = 512;
+    /** What is left for looking at the lists, and for the longest text that a step may feed. */
+    private static final int LAST_CALLS = 200;
+    private static final int TEXT_CALLS = 30;
     private static final String[] NAMES = {"m.f", "m.g", "x.f", "ab.cd", "ab.ce", "z.long", "abcdef.ghijk", "m.none"};
     private static final String[] PATTERNS = {"*", "m.*", "*.f", "?.?", "ab.c?", "*.*", "a*.*d", "**", "x.f", "*o*", "?*g", "abcdef.ghijk"};
     /** These go on until an invocation is too deep, or one too many. */
@@ -15,6 +20,7 @@ final class ModelTest {
     private final ProbeConsole console = new ProbeConsole();
     private final Model model = new Model();
     private final StringBuilder story = new StringBuilder();
+    private int calls = 0;
     private int wrong = 0;
 
     private ModelTest(long seed) {
@@ -54,7 +60,7 @@ final class ModelTest {
 
     private void run() {
         int steps = 20 + chance.nextInt(100);
-        for (int i = 0; i < steps && wrong == 0; i++) {
+        for (int i = 0; i < steps && wrong == 0 && calls < MOST_CALLS - LAST_CALLS - TEXT_CALLS; i++) {
             int kind = chance.nextInt(i < 12 ? 8 : 24);
             if (kind < 5) {
                 text(true);
@@ -73,10 +79,13 @@ final class ModelTest {
             }
             compareState();
         }
+        compareJobs();
         compareLists();
     }
 
+    /** One call of the console, and the model's answer. */
     private void due(String what, long got, long want) {
+        calls++;
         story.append(what).append(" -> ").append(got).append('\n');
         if (got != want) {
             wrong++;
@@ -121,7 +130,9 @@ final class ModelTest {
         } else {
             due("command() " + text, console.command(), model.command());
         }
-        met[console.fault()]++;
+        due("fault()", console.fault(), model.fault);
+        due("place()", console.place(), model.place);
+        met[model.fault]++;
     }
 
     private void call() {
@@ -157,36 +168,64 @@ final class ModelTest {
     }
 
     private void compareState() {
-        due("fault()", console.fault(), model.fault);
-        due("place()", console.place(), model.place);
-        due("value()", console.value(), model.value);
-        due("invoked()", console.invoked(), model.invoked);
-        due("records()", console.records(), model.records.size());
-        due("keeps()", console.keeps(), model.keeps.size());
+        switch (chance.nextInt(6)) {
+            case 0:
+                due("fault()", console.fault(), model.fault);
+                due("place()", console.place(), model.place);
+                break;
+            case 1:
+                int job = chance.nextInt(8);
+                due("job(" + job + ", 0)", console.job(job, 0), model.job(job, 0));
+                due("job(" + job + ", 1)", console.job(job, 1), model.job(job, 1));
+                break;
+            default:
+                due("value()", console.value(), model.value);
+                due("invoked()", console.invoked(), model.invoked);
+                due("records()", console.records(), model.records.size());
+                due("keeps()", console.keeps(), model.keeps.size());
+                break;
+        }
     }
 
-    private void compareLists() {
-        for (int i = 0; i < model.records.size() && wrong == 0; i++) {
-            for (int what = 0; what < 5; what++) {
-                due("record(" + i + ", " + what + ")", console.record(i, what), model.records.get(i)[what]);
-            }
-        }
-        for (int i = 0; i < model.keeps.size() && wrong == 0; i++) {
-            for (int what = 0; what < 7; what++) {
-                due("kept(" + i + ", " + what + ")", console.kept(i, what), model.keeps.get(i)[what]);
-            }
-        }
+    private void compareJobs() {
         for (int j = 0; j < 8 && wrong == 0; j++) {
             due("job(" + j + ", 0)", console.job(j, 0), model.job(j, 0));
             due("job(" + j + ", 1)", console.job(j, 1), model.job(j, 1));
-            for (int m = 0; model.isMonitor(j) && m < 3 * model.methodCount(); m++) {
+            int from = chance.nextInt(3);
+            for (int m = from; model.isMonitor(j) && m < 3 * model.methodCount(); m += 4) {
                 due("counted(" + j + ", " + m / 3 + ", " + m % 3 + ")", console.counted(j, m / 3, m % 3), model.counted(j, m / 3, m % 3));
             }
         }
-        met[6] += model.records.size();
-        met[7] += model.keeps.size();
-        met[9] += model.records.size() == 300 ? 1 : 0;
-        met[10] += model.keeps.size() == 40 ? 1 : 0;
+    }
+
+    /** As many rows, from all parts of the lists, as there are calls left for. */
+    private void compareLists() {
+        int records = model.records.size();
+        int keeps = model.keeps.size();
+        met[6] += records;
+        met[7] += keeps;
+        met[9] += records == 300 ? 1 : 0;
+        met[10] += keeps == 40 ? 1 : 0;
+        while (records + keeps > 0 && wrong == 0 && calls <= MOST_CALLS - 7) {
+            int i = chance.nextInt(2 * records + keeps);
+            if (i < 2 * records) {
+                compareRecord(i / 2);
+            } else {
+                compareKept(i - 2 * records);
+            }
+        }
+    }
+
+    private void compareRecord(int i) {
+        for (int what = 0; what < 5; what++) {
+            due("record(" + i + ", " + what + ")", console.record(i, what), model.records.get(i)[what]);
+        }
+    }
+
+    private void compareKept(int i) {
+        for (int what = 0; what < 7; what++) {
+            due("kept(" + i + ", " + what + ")", console.kept(i, what), model.keeps.get(i)[what]);
+        }
     }
 
     private String one(String[] of) {

@@ -27,7 +27,7 @@ final class RoomTest {
     }
 
     private static void work(ProbeConsole x) {
-        for (int i = 0; i < 60; i++) {
+        for (int i = 0; i < 25; i++) {
             x.call(0, i, i & 3, 1);
             x.method();
             x.command();
