@@ -69,6 +69,7 @@ final class TermsEdgeTest {
         DESK.badCommand("keep *" + times(" ", 193) + "*", 1, 199);
         DESK.badCommand("kill 7" + times(" ", 194), 5, 200);
         DESK.badCommand(times(" ", 196) + "keep", 1, 200);
+        DESK.badCommand(times(" ", 200), 1, 200);
         DESK.due("a byte more", DESK.console.feed(1, ' '), -1);
     }
 
@@ -545,7 +546,7 @@ final class TermsEdgeTest {
     private static void sixteenMethods() {
         DESK.anew();
         for (int i = 0; i < 16; i++) {
-            DESK.method("m." + (char) ('a' + i) + "(1)=a+" + i, i);
+            DESK.method("m." + (char) ('a' + i) + "(1)=a>999?m.z(a):a+" + i, i);
         }
         DESK.badMethod("m.z(1)=a", 5, 8);
         DESK.badMethod("m.z(1)=a+1+1", 5, 12);
@@ -554,6 +555,7 @@ final class TermsEdgeTest {
         for (int i = 0; i < 16; i++) {
             DESK.call(i, 100, 0, 0, 0, 100 + i);
         }
+        DESK.call(15, 1000, 0, 0, 1, -4);
         DESK.bounds("a 17th", () -> DESK.console.call(16, 0, 0, 0));
     }
 
