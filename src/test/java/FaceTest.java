@@ -8,10 +8,13 @@ import java.util.TreeSet;
 
 /** The public face: what the document lists, and no other member that can be seen from outside. */
 final class FaceTest {
+    private static final String BOUNDS = " throws IndexOutOfBoundsException";
+    private static final String ARGUMENT = " throws IllegalArgumentException";
+    private static final String BOTH = BOUNDS + ", IllegalArgumentException";
     private static final String[] FACE = {
-        "int call(int, int, int, int)", "int clear()", "int command()", "int counted(int, int, int)", "int fault()",
-        "int feed(int, long)", "int invoked()", "int job(int, int)", "int keeps()", "int kept(int, int)", "int method()",
-        "int place()", "int record(int, int)", "int records()", "int replay(int)", "int value()", "int wipe()"};
+        "int feed(int, long)" + ARGUMENT, "int wipe()", "int method()", "int command()", "int fault()", "int place()",
+        "int call(int, int, int, int)" + BOUNDS, "int value()", "int invoked()", "int records()", "int record(int, int)" + BOTH, "int clear()",
+        "int job(int, int)" + BOTH, "int counted(int, int, int)" + BOTH, "int keeps()", "int kept(int, int)" + BOTH, "int replay(int)" + BOUNDS};
 
     public static void main(String[] args) {
         Desk desk = new Desk();
@@ -34,7 +37,12 @@ final class FaceTest {
         for (Field field : console.getDeclaredFields()) {
             boolean open = !Modifier.isPrivate(field.getModifiers());
             desk.due(field + " is seen", open ? 1 : 0, field.getName().equals("NONE") ? 1 : 0);
+            if (open) {
+                desk.due(field + " is a public constant", field.getModifiers(), Modifier.PUBLIC | Modifier.STATIC | Modifier.FINAL);
+                desk.due(field + " is an int", field.getType() == int.class ? 1 : 0, 1);
+            }
         }
+        desk.due("NONE", ProbeConsole.NONE, -1);
         for (Class<?> inside : console.getDeclaredClasses()) {
             desk.due(inside + " is static", inside.getModifiers() & (Modifier.STATIC | Modifier.PUBLIC | Modifier.PROTECTED), Modifier.STATIC);
             for (Method method : inside.getDeclaredMethods()) {
@@ -49,6 +57,11 @@ final class FaceTest {
         for (Class<?> type : method.getParameterTypes()) {
             told.append(told.charAt(told.length() - 1) == '(' ? "" : ", ").append(type);
         }
-        return told.append(')').toString();
+        told.append(')');
+        Class<?>[] thrown = method.getExceptionTypes();
+        for (int i = 0; i < thrown.length; i++) {
+            told.append(i == 0 ? " throws " : ", ").append(thrown[i].getSimpleName());
+        }
+        return told.toString();
     }
 }
