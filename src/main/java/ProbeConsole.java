@@ -323,7 +323,7 @@ public final class ProbeConsole {
 
         int add(int operation, long operand) {
             int at = length;
-            height += rise(operation, operand);
+            height += rise(operation);
             if (at < ROOM) {
                 operations[at] = operation;
                 operands[at] = operand;
@@ -331,6 +331,11 @@ public final class ProbeConsole {
                 length++;
             }
             return at;
+        }
+
+        void addInvocation(long key, int arguments) {
+            height -= arguments;
+            add(INVOKE, key);
         }
 
         int addOrElse(int start) {
@@ -358,16 +363,15 @@ public final class ProbeConsole {
         }
 
         /** The skips count as taking a value, for the side behind them begins without the other's. */
-        private static int rise(int operation, long operand) {
+        private static int rise(int operation) {
             switch (operation) {
                 case NUMBER:
                 case VARIABLE:
+                case INVOKE:
                     return 1;
                 case NEGATE:
                 case THROW:
                     return 0;
-                case INVOKE:
-                    return 1 - Packed.parametersOf(operand);
                 default:
                     return -1;
             }
@@ -672,7 +676,7 @@ public final class ProbeConsole {
                 int count = reader.peek() == ')' ? 0 : arguments();
                 reader.expect(')');
                 open--;
-                code.add(Code.INVOKE, Packed.key(name, count));
+                code.addInvocation(Packed.key(name, count), count);
             }
         }
 

@@ -1,12 +1,14 @@
 import java.util.function.IntSupplier;
 
-/** The boundary cases that the promises 1 to 18 name: a test for each sentence, in the document's order. */
+/** The boundary cases that the document's first sentences and the promises 1 to 18 name: a test for each sentence, in the document's order. */
 final class PromiseEdgeTest {
     private static final Desk DESK = new Desk();
     private static final int MIN = Integer.MIN_VALUE;
     private static final int MAX = Integer.MAX_VALUE;
 
     public static void main(String[] args) {
+        asItWasAtThatMoment();
+        the512thCall();
         newObject();
         lowestBytesFirst();
         moreThan200();
@@ -43,6 +45,52 @@ final class PromiseEdgeTest {
     }
 
     private static final int[] NOT_ONE_TO_EIGHT = {0, 9, -1, -8, 10, 16, 256, 257, MIN, MIN + 1, MAX};
+
+    /** "what the probes see comes to a list, as it was at just that moment". */
+    private static void asItWasAtThatMoment() {
+        ProbeConsole x = DESK.anew().console;
+        DESK.method("m.f(1)=a?m.f(a-1)*2:1", 0);
+        DESK.command("watch enter * a*100+n*10+k", 0);
+        DESK.command("watch return * r*100+n*10+k", 1);
+        DESK.command("keep *", 2);
+        DESK.call(0, 2, 0, 0, 0, 4);
+        int[] values = {210, 121, 32, 130, 221, 412};
+        for (int turn = 0; turn < 2; turn++) {
+            for (int i = 0; i < values.length; i++) {
+                DESK.record(i, i / 3, 0, values[i], 0, i < 3 ? i + 1 : 6 - i);
+            }
+            for (int i = 0; i < 3; i++) {
+                DESK.kept(i, 2, 0, i, 0, 0, 0, 1 << i);
+            }
+            // nothing that comes later changes what was seen
+            DESK.call(0, 9, 0, 0, 0, 512);
+            DESK.command("reset", turn == 0 ? 3 : 1);
+            DESK.command("watch enter * 7", 0);
+        }
+        DESK.due("records", x.records(), 6 + 20 + 10);
+    }
+
+    /** "An object is used for at most 512 calls after it has been made": the last one is answered as any other. */
+    private static void the512thCall() {
+        ProbeConsole x = new ProbeConsole();
+        String[] texts = {"m.f(1)=m.f(a)+m.f(a)#a", "monitor *", "keep *", "watch enter * a n>8"};
+        int used = 0;
+        for (int i = 0; i < texts.length; i++) {
+            x.wipe();
+            for (int k = 0; k < texts[i].length(); k++) {
+                x.feed(1, texts[i].charAt(k));
+            }
+            DESK.due(texts[i], i == 0 ? x.method() : x.command(), i == 0 ? 0 : i - 1);
+            used += 2 + texts[i].length();
+        }
+        int calls = 509 - used;
+        for (int i = 0; i < calls; i++) {
+            DESK.due("each call is stopped", x.call(0, i, 0, 0), 1);
+        }
+        DESK.due("the 510th", x.invoked(), 1000);
+        DESK.due("the 511th", x.counted(0, 0, 0), 1000 * calls);
+        DESK.due("the 512th", x.call(0, 5, 0, 0), 1);
+    }
 
     /** Promise 1: "No methods, jobs, records; nothing kept; an empty tape." */
     private static void newObject() {
